@@ -10,7 +10,7 @@ public final class RockingRiders {
     private static final int MOST_READINGS = 8, MOST_PAIRS = 20, LONGEST_TOLD = 20, MOST_MINUTES = 99;
 
     private final Nursery now;
-    /** What is only told, or read and not yet taken, is tried here, so that nothing of the real one changes. */
+    /** What is not yet taken, or only looked at ahead, goes here, so that nothing of the real one changes. */
     private final Nursery spare;
     private final Tale tale;
     private final Readings readings;
@@ -22,7 +22,7 @@ public final class RockingRiders {
     public RockingRiders() {
         now = new Nursery();
         spare = new Nursery();
-        tale = new Tale(spare);
+        tale = new Tale();
         readings = new Readings();
         guiding = new Guiding();
         sheets = new Sheet[MOST_SHEETS];
@@ -220,9 +220,9 @@ public final class RockingRiders {
         }
         switch (what) {
             case 0:
-                return spare.howManyAreInLands();
+                return tale.nursery.howManyAreInLands();
             case 2:
-                return spare.whoseEyesAreShut();
+                return tale.nursery.whoseEyesAreShut();
             case 3:
                 return tale.landsSeen;
             case 4:
@@ -233,8 +233,8 @@ public final class RockingRiders {
     }
 
     private int milesTold(int k) {
-        Rider r = spare.riderAt(k);
-        return r == null ? NONE : spare.milesOf(r);
+        Rider r = tale.nursery.riderAt(k);
+        return r == null ? NONE : tale.nursery.milesOf(r);
     }
 
     // ---- 3 who comes whither
@@ -371,10 +371,10 @@ public final class RockingRiders {
         }
         int upper = now.minutesIn(r, land);
         int lower = r.lasting;
-        return shared(which == 0 ? upper : lower, greatestDivisor(upper, lower));
+        return quotient(which == 0 ? upper : lower, greatestDivisor(upper, lower));
     }
 
-    /** The greatest number that divides both; lower is above 0. */
+    /** Counted down from the lower number, which is a divisor of both where the upper one is 0. */
     private static int greatestDivisor(int upper, int lower) {
         for (int d = lower; d > 1; d--) {
             if (upper % d == 0 && lower % d == 0) {
@@ -585,8 +585,8 @@ public final class RockingRiders {
         return kind == MAID ? leaning + 1 : 2 * (leaning + 1);
     }
 
-    /** A quotient, cut; 0 where nothing is there to divide by (no nursery, no creaks). */
-    private static int shared(int whole, int parts) {
+    /** 0 where there is nothing to divide by: without a nursery there are no creaks to the mile. */
+    private static int quotient(int whole, int parts) {
         return parts < 1 ? 0 : whole / parts;
     }
 
@@ -714,7 +714,7 @@ public final class RockingRiders {
         }
 
         int milesOf(Rider r) {
-            return shared(r.gone, creaksToMile);
+            return quotient(r.gone, creaksToMile);
         }
 
         int landOf(Rider r) {
@@ -759,7 +759,7 @@ public final class RockingRiders {
             int set = 0;
             for (int k = 0; k < riderCount; k++) {
                 Rider r = riderAt(k);
-                int land = r == null ? NONE : landOf(r);
+                int land = r == null ? NONE : landAt(milesOf(r));
                 if (land != NONE) {
                     set |= 1 << land;
                 }
@@ -801,7 +801,7 @@ public final class RockingRiders {
         }
 
         private int milesBehind(Rider r, int minutesShut) {
-            return shared(minutesShut * paceOf(r.kind, r.leaning), creaksToMile);
+            return quotient(minutesShut * paceOf(r.kind, r.leaning), creaksToMile);
         }
 
         /** When the last of all comes to a land; NONE if somebody never does. */
@@ -874,12 +874,12 @@ public final class RockingRiders {
                 return false;
             }
             nursery.begins(creaks);
-            for (int land = 0; land < MOST_LANDS && (land == 0 || isNext(',')); land++) {
+            for (int land = 0; land < MOST_LANDS && (land == 0 || next() == ','); land++) {
                 if (!fillsLand(nursery)) {
                     return false;
                 }
             }
-            for (int k = 0; k < MOST_RIDERS && (k == 0 || isNext(';')); k++) {
+            for (int k = 0; k < MOST_RIDERS && (k == 0 || next() == ';'); k++) {
                 if (!fillsRider(nursery)) {
                     return false;
                 }
@@ -924,38 +924,47 @@ public final class RockingRiders {
         }
 
         private int takesKind() {
-            if (takes('c')) {
-                return CHILD;
+            int kind = kindBy(next());
+            if (kind != NONE) {
+                place++;
             }
-            if (takes('m')) {
-                return MAID;
-            }
-            return takes('u') ? UNCLE : NONE;
+            return kind;
         }
 
-        private boolean isNext(int code) {
-            return place < length && sheet.at(from + place) == code;
+        private static int kindBy(int letter) {
+            if (letter == 'c') {
+                return CHILD;
+            }
+            if (letter == 'm') {
+                return MAID;
+            }
+            return letter == 'u' ? UNCLE : NONE;
+        }
+
+        private int takesDigit(int least) {
+            int code = next();
+            if (code < '0' + least || code > '9') {
+                return NONE;
+            }
+            place++;
+            return code - '0';
         }
 
         private boolean takes(int code) {
-            if (!isNext(code)) {
+            if (next() != code) {
                 return false;
             }
             place++;
             return true;
         }
 
-        private int takesDigit(int least) {
-            for (int digit = least; digit <= 9; digit++) {
-                if (takes('0' + digit)) {
-                    return digit;
-                }
-            }
-            return NONE;
+        /** NONE is no code that any text has, so it can stand for the end. */
+        private int next() {
+            return place < length ? sheet.at(from + place) : NONE;
         }
     }
 
-    /** An afternoon that is told: it happens in a nursery made like the real one. */
+    /** An afternoon that is told: it happens in a nursery of its own, for nothing of the real one may change. */
     private static final class Tale {
         static final int SHUTS = 0, LOOKS = 1, PASSES = 2;
 
@@ -963,8 +972,8 @@ public final class RockingRiders {
         int looks;
         int landsSeen;
 
-        Tale(Nursery where) {
-            nursery = where;
+        Tale() {
+            nursery = new Nursery();
         }
 
         /** The first wrong of n pairs, NONE if there is none. */
@@ -987,14 +996,14 @@ public final class RockingRiders {
                 return true;
             }
             Rider r = nursery.riderAt(first);
-            if (r == null || r.eyesShut == (second == SHUTS)) {
+            if (r == null || r.eyesShut != (second == LOOKS)) {
                 return false;
             }
-            if (second == SHUTS) {
-                r.shutsEyes();
-            } else {
+            if (second == LOOKS) {
                 r.looksUp();
                 looks++;
+            } else {
+                r.shutsEyes();
             }
             return true;
         }
@@ -1060,7 +1069,7 @@ public final class RockingRiders {
             }
         }
 
-        /** The land of rider k by which most is reached, the first of several: no land comes last, as its 9 does in a row. */
+        /** The first land by which most is reached from rider k on; none is tried last, as its 9 is last in a row. */
         private int choice(int k, int taken) {
             int chosen = NO_LAND;
             int most = -1;
@@ -1136,7 +1145,7 @@ public final class RockingRiders {
                     return false;
                 }
                 int pace = riders[i] == k ? paceOf(kind, leaning) : paceIn(nursery, riders[i]);
-                if (shared(pace * minutes[i], creaks) != miles[i]) {
+                if (quotient(pace * minutes[i], creaks) != miles[i]) {
                     return false;
                 }
             }

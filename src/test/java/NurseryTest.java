@@ -93,6 +93,13 @@ public final class NurseryTest {
         faulty("r", 1);
         faulty("r0,01;c11", 1);
         faulty("rr", 1);
+        faulty("r:,01;c11", 1);
+        faulty("r1,/1;c11", 3);
+        faulty("r1,:1;c11", 3);
+        faulty("r1,1/;c11", 4);
+        faulty("r1,1:;c11", 4);
+        faulty("r1,01;c:1", 7);
+        faulty("r1,01;c1:", 8);
         faulty("r1", 2);
         faulty("r1;c11", 2);
         faulty("r12,01;c11", 2);
