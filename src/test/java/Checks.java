@@ -6,8 +6,14 @@ final class Checks {
 
     private static int right = 0;
     private static int wrong = 0;
+    private static String test = "";
 
     private Checks() {
+    }
+
+    /** What is due from here on is told as of this test. */
+    static void in(String name) {
+        test = name.isEmpty() ? "" : name + ": ";
     }
 
     static void due(String what, long got, long want) {
@@ -15,7 +21,7 @@ final class Checks {
             right++;
         } else {
             wrong++;
-            System.out.println(what + ": answered " + got + ", due is " + want);
+            System.out.println(test + what + ": answered " + got + ", due is " + want);
         }
     }
 
